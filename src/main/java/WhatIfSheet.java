@@ -13,7 +13,8 @@ public final class WhatIfSheet {
   private static final int STACK_ROOM = 256;
 
   private static final int PLAIN = 0, WHOLE = 1, SINGLE = 2, SMALL = 3, TURN = 4, CAPPED = 5, KINDS = 6;
-  private static final int[] UNDER = {NONE, PLAIN, PLAIN, WHOLE, SINGLE, PLAIN};
+  // The KIND that each KIND is under, in their order; -1: none.
+  private static final int[] UNDER = {-1, 0, 0, 1, 2, 0};
 
   private static final int EMPTY = 1, BY_ZERO = 2, TOO_FAR = 3, NO_CASE = 4;
   private static final long FAR = 1000000000000L;
@@ -400,7 +401,8 @@ public final class WhatIfSheet {
 
   private int wrongNow(int cell) {
     teller.begin();
-    return teller.tellCell(cell);
+    teller.tellCells(0, names.reached[cell]);
+    return teller.wrongs[0][cell];
   }
 
   private Tally tallyNow(int t) {
@@ -420,7 +422,8 @@ public final class WhatIfSheet {
     Grid grid = board.grids[t];
     teller.begin();
     teller.enter(1);
-    teller.tellCase(1, grid, i * 10 + j, names.reached[grid.output]);
+    teller.supposeCase(1, grid, i, j);
+    teller.tellCells(1, names.reached[grid.output]);
     return teller.wrongs[1][grid.output];
   }
 
@@ -460,16 +463,19 @@ public final class WhatIfSheet {
   /** Lets the bracket close in on what is wanted; it stays not ended where nothing is found. */
   private void closeIn(int input, int cell) {
     teller.begin();
-    if (!tellsAt(input, bracket.low, cell)) return;
+    bracket.told = 1;
+    if (teller.tryNumber(input, bracket.low, cell) != 0) return;
     bracket.atLow = teller.numbers[0][cell];
-    if (!tellsAt(input, bracket.high, cell)) return;
+    bracket.told = 2;
+    if (teller.tryNumber(input, bracket.high, cell) != 0) return;
     bracket.atHigh = teller.numbers[0][cell];
     if (bracket.endsAtOnce() || !bracket.isBetween()) return;
     boolean halved = false;
     for (int k = 0; k < MOST_TRIES; k++) {
       double middle = bracket.middle(halved);
       if (!bracket.isInside(middle)) break;
-      if (!tellsAt(input, middle, cell)) return;
+      bracket.told++;
+      if (teller.tryNumber(input, middle, cell) != 0) return;
       double there = teller.numbers[0][cell];
       if (there == bracket.want) {
         bracket.end(middle, there);
@@ -478,11 +484,6 @@ public final class WhatIfSheet {
       halved = bracket.narrow(middle, there);
     }
     bracket.endNearer();
-  }
-
-  private boolean tellsAt(int input, double x, int cell) {
-    bracket.told++;
-    return teller.tryNumber(input, x, cell) == 0;
   }
 
   /** How far apart a cell's VALUES are, an input's NUMBER being d more and d less; -1, if one is an ERROR. */
@@ -774,6 +775,15 @@ public final class WhatIfSheet {
     // What a cell alone adds to a BURDEN.
     private final int[] shares = new int[CELLS];
     private final int[] least = new int[TABLES];
+
+    /** Of a new board, where all are inputs. */
+    Names() {
+      for (int node = 0; node < NODES; node++) order[node] = node;
+      for (int c = 0; c < CELLS; c++) {
+        reached[c] = 1 << c;
+        reads[c] = 1 << c;
+      }
+    }
 
     private static int namedBy(Board board, int node) {
       if (node < CELLS) return board.formulas[node].named;
@@ -1095,11 +1105,8 @@ public final class WhatIfSheet {
       if (isWord("pick")) worth = PICK;
       else if (isWord("min")) worth = MIN;
       else if (isWord("max")) worth = MAX;
-      else lookAtQuestion();
-    }
-
-    private void lookAtQuestion() {
-      token = QUESTION;
+      else token = QUESTION;
+      if (token == CALL) return;
       if (isWord("sum")) worth = SUM;
       else if (isWord("mean")) worth = MEAN;
       else if (isWord("least")) worth = LEAST;
@@ -1195,7 +1202,6 @@ public final class WhatIfSheet {
 
     Teller() {
       for (int t = 0; t < TABLES; t++) tallies[t] = new Tally();
-      names.learn(board);
     }
 
     void begin() {
@@ -1211,15 +1217,11 @@ public final class WhatIfSheet {
       wrongs[0][input] = 0;
     }
 
-    /** Tells a cell by the inputs as they are supposed: what is wrong with it. */
-    int tellCell(int cell) {
-      tellCells(0, names.reached[cell]);
-      return wrongs[0][cell];
-    }
-
+    /** Tells a cell, were an input's number this: what is wrong with it. */
     int tryNumber(int input, double number, int cell) {
       suppose(input, number);
-      return tellCell(cell);
+      tellCells(0, names.reached[cell]);
+      return wrongs[0][cell];
     }
 
     int tryDrawn(int cell, int seed) {
@@ -1229,9 +1231,11 @@ public final class WhatIfSheet {
         z = z * 1103515245 + 12345;
         suppose(input, ((z >>> 9) % 401 - 200) / 8.0);
       }
-      return tellCell(cell);
+      tellCells(0, names.reached[cell]);
+      return wrongs[0][cell];
     }
 
+    /** Tells those of these cells that have formulas, by the inputs of a level. */
     private void tellCells(int level, int cells) {
       for (int k = 0; k < NODES; k++) {
         int cell = names.order[k];
@@ -1248,7 +1252,9 @@ public final class WhatIfSheet {
         if (act == BRING) push(what / 1000.0, 0);
         else if (act == LOOK && isCell(what)) push(numbers[level][what], wrongs[level][what]);
         else if (act >= ASK && isTable(what)) ask(level, cell, what, act - ASK);
-        else work(act, cell);
+        else if (act == NEGATE) negate();
+        else if (act == PICK) pickPart();
+        else workOnTwo(act, cell);
       }
       if (base >= STACK_ROOM) return;
       top = base;
@@ -1261,12 +1267,6 @@ public final class WhatIfSheet {
       stack[top] = number;
       stackWrongs[top] = wrong;
       top++;
-    }
-
-    private void work(int act, int cell) {
-      if (act == NEGATE) negate();
-      else if (act == PICK) pickPart();
-      else workOnTwo(act, cell);
     }
 
     private void negate() {
@@ -1294,24 +1294,22 @@ public final class WhatIfSheet {
         stackWrongs[top - 1] = wrongBy(BY_ZERO, cell);
         return;
       }
-      double made = madeOf(act, a, b);
+      double made = a;
+      switch (act) {
+        case ADD: made = a + b; break;
+        case TAKE: made = a - b; break;
+        case TIMES: made = a * b; break;
+        case OVER: made = b == 0 ? a : a / b; break;
+        case LEFT: made = b == 0 ? a : leftOver(a, b); break;
+        case LESS: made = a < b ? 1 : 0; break;
+        case SAME: made = a == b ? 1 : 0; break;
+        case MIN: made = b < a ? b : a; break;
+        case MAX: made = b > a ? b : a; break;
+        default: break;
+      }
       boolean tooFar = act >= ADD && act <= OVER && (made > FAR || made < -FAR);
       if (tooFar) stackWrongs[top - 1] = wrongBy(TOO_FAR, cell);
       else stack[top - 1] = made;
-    }
-
-    private static double madeOf(int act, double a, double b) {
-      switch (act) {
-        case ADD: return a + b;
-        case TAKE: return a - b;
-        case TIMES: return a * b;
-        case OVER: return b == 0 ? 0 : a / b;
-        case LEFT: return b == 0 ? 0 : leftOver(a, b);
-        case LESS: return a < b ? 1 : 0;
-        case SAME: return a == b ? 1 : 0;
-        case MIN: return b < a ? b : a;
-        default: return b > a ? b : a;
-      }
     }
 
     private void ask(int level, int cell, int t, int what) {
@@ -1326,7 +1324,7 @@ public final class WhatIfSheet {
     }
 
     /** Tells all CASES of a laid table by the inputs of a level, the tables within it by the levels above. */
-    void tellTable(int level, int t) {
+    private void tellTable(int level, int t) {
       Grid grid = board.grids[t];
       Tally tally = tallies[t];
       tally.restart();
@@ -1337,7 +1335,8 @@ public final class WhatIfSheet {
       int slice = names.slice(board, t);
       for (int i = 0; i < grid.oneCount; i++) {
         for (int j = 0; j < grid.columns(); j++) {
-          tellCase(within, grid, i * 10 + j, cells);
+          supposeCase(within, grid, i, j);
+          tellCells(within, cells);
           tally.take(numbers[within][grid.output], wrongs[within][grid.output]);
           // What reads neither input stays as the first case told it.
           cells = slice;
@@ -1351,18 +1350,13 @@ public final class WhatIfSheet {
       System.arraycopy(wrongs[level - 1], 0, wrongs[level], 0, CELLS);
     }
 
-    /** Tells cells in a case, place being 10 * i + j. */
-    void tellCase(int level, Grid grid, int place, int cells) {
-      int i = place / 10;
-      int j = place % 10;
-      if (i < 0 || i >= AXIS_ROOM || j < 0 || j >= AXIS_ROOM) return;
+    void supposeCase(int level, Grid grid, int i, int j) {
+      if (level < 1 || level >= LEVELS || i < 0 || i >= AXIS_ROOM || j < 0 || j >= AXIS_ROOM) return;
       numbers[level][grid.one] = keep(board.kinds[grid.one], grid.ones[i]);
       wrongs[level][grid.one] = 0;
-      if (grid.other != NONE) {
-        numbers[level][grid.other] = keep(board.kinds[grid.other], grid.others[j]);
-        wrongs[level][grid.other] = 0;
-      }
-      tellCells(level, cells);
+      if (grid.other == NONE) return;
+      numbers[level][grid.other] = keep(board.kinds[grid.other], grid.others[j]);
+      wrongs[level][grid.other] = 0;
     }
   }
 
