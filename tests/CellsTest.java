@@ -110,6 +110,14 @@ public final class CellsTest {
       Check.due("4: kind " + k, x.told(7, 0), k);
     }
     Check.due("4: stays empty", x.told(7, 7), 1);
+    x.set(8, 20);
+    x.kind(8, 1);
+    x.kind(8, 0);
+    Check.dueNumber("4: what was cut is gone", x.value(8), 2);
+    x.set(8, 8 * 300);
+    x.kind(8, 3);
+    x.kind(8, 5);
+    Check.dueNumber("4: what was cut is gone", x.value(8), 44);
     Check.due("4: no kind", x.kind(7, 6), -2);
     Check.due("4: no kind", x.kind(7, -1), -2);
     Check.due("4: no cell", x.kind(24, 0), -2);
@@ -258,6 +266,12 @@ public final class CellsTest {
     Check.due("7: no output", x.would(0, 0, -1), -2);
     Check.due("7: a formula", x.would(1, 0, 1), -3);
     Check.due("7: bad ahead of state", x.would(1, 0, 24), -2);
+    x.value(1);
+    x.set(0, 80);
+    x.kind(0, 0);
+    Check.dueNumber("7: the others are as they are now", x.would(2, 8, 1), 20);
+    x.clear(0);
+    Check.due("7: the others are as they are now", x.would(2, 8, 1), -21);
     x.table(0, 1, 0, -1);
     Check.tell(x, 3, "sum 0+a");
     Check.dueNumber("7: what a table varies stays its own", x.would(0, 80, 3), 10);

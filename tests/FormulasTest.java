@@ -213,6 +213,9 @@ public final class FormulasTest {
     faulty("y", 0);
     faulty("z", 0);
     faulty("ab", 0);
+    faulty("az", 0);
+    faulty("za", 0);
+    faulty("b+y", 2);
     faulty("a+suma", 2);
     faulty("pic(1,2,3)", 0);
     faulty("picks(1,2,3)", 0);
@@ -340,8 +343,48 @@ public final class FormulasTest {
     }
   }
 
+  /** The first and the last cell with formulas. */
+  private static void ends() {
+    WhatIfSheet x = new WhatIfSheet();
+    x.set(1, 16);
+    x.set(2, 8);
+    Check.due("10: a formula of a", Check.tell(x, 0, "b*3"), 1);
+    Check.due("10: a formula of x", Check.tell(x, 23, "a+1"), 1);
+    Check.dueNumber("10: value of x", x.value(23), 7);
+    Check.due("10: ring through a", Check.tell(x, 1, "x"), -5);
+    Check.due("10: ring through x", Check.tell(x, 0, "x"), -5);
+    Check.due("26: formulas", x.count(0), 2);
+    Check.due("5: burden", x.told(23, 4), 2);
+    Check.due("5: burden", x.told(0, 4), 1);
+    Check.due("5: reads", x.told(23, 2), 2);
+    x.table(0, 23, 1, 2);
+    x.axis(0, 0, 8, 8, 8);
+    x.axis(0, 1, 8, 8, 8);
+    Check.due("18: slice", x.asks(0, 2), 1 | 1 << 23);
+    Check.due("18: told least", x.asks(0, 3), 16);
+    Check.due("18: burden", x.asks(0, 4), 128);
+    x.image();
+    x.clear(0);
+    x.back();
+    Check.dueNumber("25: value of x", x.value(23), 7);
+    String most = "sum 0+sum 0+sum 0+sum 0+sum 0+sum 0+sum 0+sum 0+sum 0+sum 0+sum 0+sum 0+sum 0+sum 0+sum 0";
+    Check.due("10: 15 times 128", Check.tell(x, 22, most), 1);
+    Check.due("10: burden", x.told(22, 4), 1921);
+    WhatIfSheet y = new WhatIfSheet();
+    Check.tell(y, 5, "c");
+    y.table(0, 5, 2, 1);
+    y.axis(0, 0, 8, 8, 8);
+    y.axis(0, 1, 8, 8, 8);
+    Check.tell(y, 4, most);
+    Check.tell(y, 3, "e+" + most);
+    Check.due("10: a alone would be too much", Check.tell(y, 0, "d+sum 0+sum 0"), -4);
+    Check.due("10: a alone isn't too much", Check.tell(y, 0, "d+sum 0"), 1);
+    Check.due("10: a alone isn't too much", y.told(0, 4), 3 + 31 * 64);
+  }
+
   public static void main(String[] args) {
     feed();
+    ends();
     values();
     errors();
     faults();

@@ -26,6 +26,10 @@ public final class TablesTest {
     Check.due("11: anew", x.table(0, 4, 0, 1), 1);
     Check.due("11: anew, by one number", x.asks(0, 5), 1);
     Check.due("11: still as many", x.count(2), 2);
+    x.axis(0, 1, 8, 8, 2);
+    Check.dueNumber("11: 0 by 1", x.at(0, 0, 0), 0);
+    x.table(0, 4, 0, 1);
+    Check.due("11: anew, 0 by 0", x.at(0, 0, 0), -22);
     Check.due("11: output is its one", x.table(1, 0, 0, -1), 1);
     Check.due("11: output is its one", x.at(1, 0, 0), 0);
     Check.due("11: no table", x.table(6, 4, 0, 1), -2);
@@ -340,6 +344,10 @@ public final class TablesTest {
     Check.dueNumber("17: in a formula", x.value(7), 1.0 / 3 + 2.0 / 3 + 1);
     Check.tell(x, 7, "fails 0");
     Check.dueNumber("17: fails in a formula", x.value(7), 3);
+    x.axis(0, 0, 16, 8, 1);
+    for (int what = 0; what < 4; what++) Check.dueNumber("17: of one alone " + what, x.adds(0, what), 2.0 / 3);
+    Check.due("17: the other fails", x.adds(0, 4), 1);
+    x.axis(0, 0, 8, 8, 3);
     x.axis(0, 1, 0, 0, 2);
     Check.due("17: sum of none", x.adds(0, 0), 0);
     Check.due("17: mean of none", x.adds(0, 1), -24);
@@ -362,6 +370,29 @@ public final class TablesTest {
     Check.dueNumber("17: below 0", x.adds(2, 0), -6);
     Check.dueNumber("17: below 0", x.adds(2, 2), -3);
     Check.dueNumber("17: below 0", x.adds(2, 3), -1);
+  }
+
+  /** A sum so small that its mean is nothing, but below 0. */
+  private static void smallMean() {
+    WhatIfSheet x = new WhatIfSheet();
+    Check.tell(x, 1, "0.001*0.001*0.001*0.001*0.001*0.001*0.001*0.001*0.001*0.001*0.001");
+    Check.tell(x, 2, "b*b*b*b*b*b*b*b*b/9999/9999/9999/9999/9999/9999");
+    for (int n = 9999; n > 0; n--) {
+      Check.tell(x, 3, "c/" + n);
+      if (x.value(3) != 0) break;
+    }
+    Check.due("6: the smallest", x.value(3), 1);
+    Check.tell(x, 4, "pick(a,-d,0)");
+    x.table(0, 4, 0, -1);
+    x.axis(0, 0, 0, 8, 2);
+    Check.dueNumber("17: the smallest sum", x.adds(0, 0), -Double.MIN_VALUE);
+    Check.dueNumber("17: its mean", x.adds(0, 1), -Double.MIN_VALUE / 2);
+    Check.dueNumber("17: the least", x.adds(0, 2), -Double.MIN_VALUE);
+    Check.dueNumber("17: the most", x.adds(0, 3), 0);
+    x.axis(0, 0, 0, 0, 2);
+    Check.dueNumber("17: of nothing", x.adds(0, 1), 0);
+    Check.tell(x, 5, "mean 0");
+    Check.dueNumber("17: kept", x.value(5), 0);
   }
 
   private static void asks() {
@@ -421,6 +452,7 @@ public final class TablesTest {
     tablesWithinTables();
     deepTables();
     adds();
+    smallMean();
     asks();
     Check.end();
   }

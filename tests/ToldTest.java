@@ -95,6 +95,17 @@ public final class ToldTest {
     Check.due("23: the least there is", x.tells(0, 1, 2, 2), 1);
     x.put(1, 0, -160);
     Check.due("23: beyond", x.tells(0, 1, 2, 3), -1);
+    x.set(2, 28);
+    x.set(3, 8);
+    Check.tell(x, 5, "c+d");
+    x.table(1, 5, 20, -1);
+    x.film(1, 0);
+    x.set(2, 24);
+    Check.due("23: the others are as they are now", x.tells(1, 0, 3, 3), -1);
+    x.put(0, 0, 40);
+    Check.due("23: the others are as they are now", x.tells(1, 0, 3, 3), 1002);
+    x.set(2, 16);
+    Check.due("23: the others are as they are now", x.tells(1, 0, 3, 3), 1003);
     x.clear(2);
     x.film(0, 1);
     Check.due("23: as long as it is empty", x.tells(0, 1, 2, 0), -1);

@@ -66,6 +66,16 @@ public final class WantedTest {
     Check.tell(x, 4, "pick(a<3,0,8)");
     Check.dueNumber("19: low is nearer", x.value(4) == -21 ? x.seek(0, 4, 0, 80, 8, 1) : 0, 0);
     Check.dueNumber("19: high is nearer", x.seek(0, 4, 0, 80, 56, 1), 8);
+    Check.tell(x, 4, "pick(a<3,-9,-1)");
+    Check.dueNumber("19: low is nearer below 0", x.seek(0, 4, 0, 80, -48, 1), -9);
+    Check.dueNumber("19: high is nearer below 0", x.seek(0, 4, 0, 80, -32, 1), -1);
+    Check.dueNumber("19: both are as near", x.seek(0, 4, 0, 80, -40, 1), -9);
+    Check.tell(x, 4, "pick(a<3,9,1)");
+    Check.dueNumber("19: low is nearer, falling", x.seek(0, 4, 0, 80, 48, 1), 9);
+    Check.dueNumber("19: high is nearer, falling", x.seek(0, 4, 0, 80, 32, 1), 1);
+    Check.tell(x, 4, "pick(a<3,-1,6)");
+    Check.dueNumber("19: low is nearer, across 0", x.seek(0, 4, 0, 80, 16, 1), -1);
+    Check.dueNumber("19: high is nearer, across 0", x.seek(0, 4, 0, 80, 24, 1), 6);
     x.kind(0, 1);
     Check.tell(x, 4, "a");
     Check.dueNumber("19: x isn't kept, F is", x.seek(0, 4, 0, 80, 12, 1), 1);
@@ -131,6 +141,11 @@ public final class WantedTest {
     x.set(1, 9);
     Check.due("20: no error", x.swing(5, 8, 0), 1);
     Check.dueNumber("20: no error", x.swing(5, 8, 1), 1 / 0.125 - 1 / 2.125);
+    Check.tell(x, 5, "100/b");
+    x.set(1, 8);
+    Check.due("20: an error alone, less", x.swing(5, 8, 0), -1);
+    x.set(1, -8);
+    Check.due("20: an error alone, more", x.swing(5, 8, 0), -1);
     Check.due("20: an input", x.swing(3, 8, 0), 3);
     Check.dueNumber("20: an input", x.swing(3, 8, 1), 2);
     Check.due("20: an empty input", x.swing(9, 8, 0), -1);
@@ -174,6 +189,15 @@ public final class WantedTest {
         for (int f = 2; f <= 20; f++) Check.due("21: lowest terms", above % f == 0 && below % f == 0 ? 1 : 0, 0);
       }
     }
+    Check.tell(x, 5, "a+h");
+    x.chance(7, 1, 1, 0, 0);
+    x.table(0, 4, 2, 3);
+    x.axis(0, 1, 80, 0, 1);
+    Check.tell(x, 6, "sum 0");
+    x.set(0, 40);
+    for (int seed = 0; seed < 20; seed++) {
+      Check.due("21: what a table varies isn't drawn", x.chance(6, seed, 1, 40, 0), drawn(seed, 1)[0] >= 5 ? 1 : 0);
+    }
     Check.due("21: never", x.chance(4, 3, 12, 80000, 0), 0);
     Check.due("21: never", x.chance(4, 3, 12, 80000, 1), 1);
     Check.due("21: always", x.chance(4, 3, 12, -80000, 0), 1);
@@ -182,7 +206,8 @@ public final class WantedTest {
     Check.due("21: just as wanted", x.chance(0, 99, 1, (int) (first * 8), 0), 1);
     Check.due("21: more is wanted", x.chance(0, 99, 1, (int) (first * 8) + 1, 0), 0);
     Check.dueNumber("21: as it was", x.value(3), 1);
-    Check.due("21: as it was", x.told(0, 7), 1);
+    Check.dueNumber("21: as it was", x.value(0), 5);
+    Check.due("21: as it was", x.told(2, 7), 1);
     x.kind(0, 3);
     x.kind(0, 1);
     Check.due("21: kept", x.chance(0, 99, 1, (int) first * 8, 0), 1);
