@@ -27,6 +27,7 @@ public final class TablesTest {
     Check.due("11: anew, by one number", x.asks(0, 5), 1);
     Check.due("11: still as many", x.count(2), 2);
     x.axis(0, 1, 8, 8, 2);
+    x.axis(0, 1, 8, 8, 3);
     Check.dueNumber("11: 0 by 1", x.at(0, 0, 0), 0);
     x.table(0, 4, 0, 1);
     Check.due("11: anew, 0 by 0", x.at(0, 0, 0), -22);
@@ -433,6 +434,11 @@ public final class TablesTest {
     Check.due("18: of an input", x.asks(3, 2), 0);
     Check.due("18: of an input", x.asks(3, 3), 0);
     Check.due("18: of an input", x.asks(3, 4), 0);
+    Check.tell(x, 7, "a/0");
+    x.table(3, 7, 0, -1);
+    x.axis(3, 0, 8, 8, 3);
+    Check.due("18: none without an other", x.asks(3, 0), -1);
+    Check.due("18: none without an other", x.asks(3, 1), -1);
     Check.due("18: no table", x.asks(6, 0), -2);
     Check.due("18: no table", x.asks(-1, 0), -2);
     Check.due("18: what", x.asks(0, 9), -2);

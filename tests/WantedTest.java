@@ -141,8 +141,12 @@ public final class WantedTest {
     x.set(1, 9);
     Check.due("20: no error", x.swing(5, 8, 0), 1);
     Check.dueNumber("20: no error", x.swing(5, 8, 1), 1 / 0.125 - 1 / 2.125);
-    Check.tell(x, 5, "100/b");
+    Check.tell(x, 5, "a*b*b");
+    x.set(0, 40);
     x.set(1, 8);
+    Check.due("20: the first is as it was for the second", x.swing(5, 8, 0), 1);
+    Check.dueNumber("20: the first is as it was for the second", x.swing(5, 8, 1), 20);
+    Check.tell(x, 5, "100/b");
     Check.due("20: an error alone, less", x.swing(5, 8, 0), -1);
     x.set(1, -8);
     Check.due("20: an error alone, more", x.swing(5, 8, 0), -1);
