@@ -313,6 +313,54 @@ public final class TablesTest {
     Check.due("18: burden is by cases", x.asks(2, 4), (1 + 2 * (4 * (1 + 2))) * 3);
   }
 
+  /** READS, SLICE, TOLD LEAST by what a table varies itself: its ONE, its OTHER, both, none. */
+  private static void namesAtBounds() {
+    WhatIfSheet x = new WhatIfSheet();
+    x.set(0, 8);
+    x.set(1, 16);
+    x.set(2, 24);
+    Check.tell(x, 4, "a+b*c");
+    Check.tell(x, 5, "a");
+    Check.tell(x, 6, "b");
+    Check.tell(x, 7, "c");
+    Check.tell(x, 8, "e+f+g+h");
+    Check.tell(x, 9, "mean 0+fails 0");
+    Check.due("5: none is laid", x.told(9, 2), 0);
+    Check.due("5: none is laid", x.told(9, 4), 1);
+    x.table(0, 8, 0, -1);
+    Check.due("5: but for its one", x.told(9, 2), 2 | 4);
+    x.table(0, 8, 1, -1);
+    Check.due("5: but for its one", x.told(9, 2), 1 | 4);
+    x.table(0, 8, 0, 1);
+    Check.due("5: but for both", x.told(9, 2), 4);
+    x.table(0, 8, 2, 0);
+    Check.due("5: but for both", x.told(9, 2), 2);
+    x.axis(0, 0, 0, 8, 2);
+    x.axis(0, 1, 0, 8, 3);
+    Check.due("18: slice by both", x.asks(0, 2), 16 | 32 | 128 | 256);
+    // e and i by both, f by the other, g by none, h by the one.
+    Check.due("18: told least", x.asks(0, 3), 6 + 6 + 3 + 1 + 2);
+    Check.due("18: burden", x.asks(0, 4), 5 * 6);
+    Check.due("5: burden", x.told(9, 4), 1 + 2 * 5 * 6);
+    x.table(1, 9, 1, 0);
+    x.axis(1, 0, 0, 8, 4);
+    x.axis(1, 1, 0, 8, 2);
+    Check.due("18: slice through a table", x.asks(1, 2), 512);
+    Check.due("18: told least through a table", x.asks(1, 3), (1 + 2 * 18) * 4);
+    Check.due("18: burden through a table", x.asks(1, 4), 61 * 8);
+    x.table(1, 9, 0, 3);
+    x.axis(1, 0, 0, 8, 4);
+    Check.due("18: what the inner one varies isn't read", x.asks(1, 2), 0);
+    Check.due("18: what the inner one varies isn't read", x.asks(1, 3), 1 + 2 * 18);
+    Check.dueNumber("15: nor does it move", x.at(1, 0, 0), Double.longBitsToDouble(x.at(1, 3, 0)));
+    x.clear(0);
+    x.clear(2);
+    Check.due("15: nor need it be there", x.at(1, 0, 0) == x.value(9) ? 1 : 0, 1);
+    Check.due("15: nor need it be there", x.told(9, 5), 0);
+    x.clear(1);
+    Check.due("17: all fail within", x.value(9), -24);
+  }
+
   private static void deepTables() {
     WhatIfSheet x = new WhatIfSheet();
     x.set(0, 8);
@@ -456,6 +504,7 @@ public final class TablesTest {
     drop();
     atAndBlame();
     tablesWithinTables();
+    namesAtBounds();
     deepTables();
     adds();
     smallMean();

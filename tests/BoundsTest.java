@@ -1,0 +1,630 @@
+import java.util.function.DoubleUnaryOperator;
+
+/** The bounds that the document names, sentence by sentence: the last that is taken, the first that isn't. */
+public final class BoundsTest {
+  // ---- 1 CELLS: "CELLS 0 .. 23", "TABLES 0 .. 5", "ROWS 0 .. 3", and what else a call's numbers reach to
+
+  private static void firstAndLastCell() {
+    for (int cell : new int[] {0, 23}) {
+      WhatIfSheet x = new WhatIfSheet();
+      char name = (char) ('a' + cell);
+      Check.due("2: set " + cell, x.set(cell, 17), 1);
+      Check.dueNumber("6: value " + cell, x.value(cell), 2.125);
+      Check.dueNumber("7: would " + cell, x.would(cell, 8, cell), 1);
+      Check.dueNumber("7: output " + cell, x.would(11, 8, cell), 2.125);
+      Check.due("4: kind " + cell, x.kind(cell, 0), 0);
+      Check.due("8: taken " + cell, x.taken(cell, 0), 0);
+      for (int what = 0; what < 8; what++) {
+        int[] due = {0, 0, 1 << cell, 1 << cell, 0, 0, -1, 0};
+        Check.due("5: told " + cell + " " + what, x.told(cell, what), due[what]);
+      }
+      Check.tell(x, 5, name + "*2+b-b");
+      x.set(1, 0);
+      Check.dueNumber("10: named " + name, x.value(5), 4.25);
+      Check.dueNumber("19: input " + cell, x.seek(cell, 5, 0, 80, 32, 0), 2);
+      Check.dueNumber("19: cell " + cell, x.seek(cell, cell, 0, 80, 24, 1), 3);
+      Check.due("20: swung by " + cell, x.swing(5, 8, 0), cell);
+      Check.due("20: swing of " + cell, x.swing(cell, 8, 0), cell);
+      Check.due("21: chance of " + cell, x.chance(cell, 3, 20, -80000, 0), 1);
+      Check.due("11: one " + cell, x.table(0, 5, cell, -1), 1);
+      Check.due("11: other " + cell, x.table(5, 5, 7, cell), 1);
+      Check.due("11: output " + cell, x.table(3, cell, 7, 8), 1);
+      Check.due("22: film", x.film(3, 3), 1);
+      for (int what = 0; what < 4; what++) {
+        int[] due = {-1, 0b110101, 0, -1};
+        Check.due("23: by " + cell, x.tells(3, 3, cell, what), due[what]);
+      }
+      x.drop(0);
+      x.drop(5);
+      Check.due("10: formula of " + cell, Check.tell(x, cell, "3"), 1);
+      Check.due("3: clear " + cell, x.clear(cell), 1);
+      Check.due("3: clear " + cell, x.told(cell, 7), 1);
+    }
+  }
+
+  private static void firstAndLastTable() {
+    for (int t : new int[] {0, 5}) {
+      WhatIfSheet x = new WhatIfSheet();
+      x.set(0, 8);
+      Check.tell(x, 4, "1/a");
+      Check.due("11: table " + t, x.table(t, 4, 0, 1), 1);
+      Check.due("12: axis " + t, x.axis(t, 0, 0, 8, 2), 2);
+      x.row(3, 3, 1);
+      Check.due("13: axisBy " + t, x.axisBy(t, 1, 3, 0, 1), 2);
+      Check.due("15: at " + t, x.at(t, 0, 0), -22);
+      Check.due("16: blame " + t, x.blame(t, 0, 0), 4);
+      Check.dueNumber("17: adds " + t, x.adds(t, 0), 1);
+      Check.due("18: asks " + t, x.asks(t, 0), 10);
+      Check.due("22: film " + t, x.film(t, 0), 2);
+      Check.due("23: tells " + t, x.tells(t, 0, 0, 0), -1);
+      Check.due("10: named " + t, Check.tell(x, 6, "sum " + t + "+fails" + t), 1);
+      Check.dueNumber("10: named " + t, x.value(6), 2);
+      Check.due("10: one beyond", Check.tell(x, 7, "sum 6"), -104);
+      Check.due("14: drop " + t, x.drop(t), 1);
+    }
+  }
+
+  private static void firstAndLastRow() {
+    for (int row : new int[] {0, 3}) {
+      WhatIfSheet x = new WhatIfSheet();
+      Check.due("27: row " + row, x.row(row, 3, 2), 1);
+      Check.due("28: put " + row, x.put(row, 1, 12), 1);
+      Check.dueNumber("29: item " + row, x.item(row, 1), 1.5);
+      Check.due("30: copy " + row, x.copy(row, 1, row, 0, 1), 1);
+      Check.dueNumber("30: copy " + row, x.item(row, 0), 1.5);
+      x.row(3 - row, 3, 2);
+      Check.due("30: copy to " + row, x.copy(3 - row, 0, row, 0, 2), 2);
+      Check.due("30: copy from " + row, x.copy(row, 0, 3 - row, 0, 2), 2);
+      x.table(0, 0, 0, -1);
+      Check.due("13: by " + row, x.axisBy(0, 0, row, 0, 2), 2);
+      Check.due("23: by " + row, x.tells(0, row, 0, 0), -1);
+      Check.due("22: film " + row, x.film(0, row), 2);
+      Check.due("27: missing " + row, x.row(row, -1, 0), 1);
+    }
+  }
+
+  /** The least and the most that each number may be. */
+  private static void leastAndMost() {
+    WhatIfSheet x = new WhatIfSheet();
+    Check.due("2: most", x.set(0, 8000000), 1);
+    Check.due("2: least", x.set(1, -8000000), 1);
+    Check.dueNumber("7: most", x.would(2, 8000000, 2), 1000000);
+    Check.dueNumber("7: least", x.would(2, -8000000, 2), -1000000);
+    Check.due("9: least byte", x.feed(1, 0, 0, 0, 0, 0), 1);
+    Check.due("9: most bytes", x.feed(5, 255, 255, 255, 255, 255), 6);
+    x.formula(5);
+    x.table(0, 3, 3, 4);
+    Check.due("12: most of all", x.axis(0, 0, 80000, 8000, 8), 8);
+    Check.dueNumber("12: the first", x.at(0, 0, 0), 10000);
+    Check.dueNumber("12: the last", x.at(0, 7, 0), 17000);
+    Check.due("12: least of all", x.axis(0, 1, -80000, -8000, 8), 64);
+    x.table(0, 4, 3, 4);
+    x.axis(0, 1, -80000, -8000, 8);
+    Check.dueNumber("12: the first", x.at(0, 0, 0), -10000);
+    Check.dueNumber("12: the last", x.at(0, 0, 7), -17000);
+    Check.due("12: one", x.axis(0, 1, 3, 8, 1), 1);
+    x.row(0, 3, 8);
+    for (int i = 0; i < 8; i++) x.put(0, i, i);
+    Check.due("13: one", x.axisBy(0, 1, 0, 7, 1), 1);
+    Check.dueNumber("13: one", x.at(0, 0, 0), 0.875);
+    Check.due("13: eight", x.axisBy(0, 1, 0, 0, 8), 8);
+    Check.dueNumber("13: eight", x.at(0, 0, 7), 0.875);
+    Check.dueNumber("19: least low", x.seek(6, 6, -80000, -79999, -80000, 0), -10000);
+    Check.dueNumber("19: most high", x.seek(6, 6, 79999, 80000, 80000, 0), 10000);
+    Check.due("19: beyond it, two were told", x.seek(6, 6, 79998, 79999, 80000, 2), 2);
+    Check.due("19: beyond it", x.seek(6, 6, 79998, 79999, 80000, 0), -1);
+    Check.dueNumber("19: just between", x.seek(6, 6, 79998, 80000, 79999, 0), 9999.875);
+    x.set(7, 0);
+    Check.dueNumber("20: least d", x.swing(7, 1, 1), 0.25);
+    Check.dueNumber("20: most d", x.swing(7, 80000, 1), 20000);
+    Check.due("21: one seed", x.chance(7, 0, 1, -200, 1), 1);
+    Check.due("21: most seeds", x.chance(7, 0, 20, -80000, 0), 1);
+    Check.due("21: most wanted", x.chance(7, 0, 20, 80000, 1), 1);
+    for (int n = 0; n <= 64; n++) {
+      Check.due("27: n " + n, x.row(1, n % 4, n), 1);
+      Check.due("27: n " + n, x.item(1, n - 1), n == 0 ? -12 : 0);
+      Check.due("27: n " + n, x.item(1, n), -12);
+    }
+  }
+
+  // ---- KEPT by a KIND
+
+  private static void kept(int kind, String text, double want) {
+    WhatIfSheet x = new WhatIfSheet();
+    x.kind(9, kind);
+    Check.due("1: <" + text + ">", Check.tell(x, 9, text), 1);
+    Check.dueNumber("1: <" + text + "> KEPT by " + kind, x.value(9), want);
+  }
+
+  private static void keptAtBounds() {
+    kept(1, "0.999", 0);
+    kept(1, "1", 1);
+    kept(1, "1.999", 1);
+    kept(1, "-0.999", 0);
+    kept(1, "-1", -1);
+    kept(1, "-1.999", -1);
+    kept(1, "1000*1000*1000*1000-0.5", 999999999999.0);
+    kept(1, "-(1000*1000*1000*1000-0.5)", -999999999999.0);
+    kept(1, "2048*1024*1024-0.5", 2147483647);
+    kept(1, "2048*1024*1024+0.5", 2147483648.0);
+    kept(1, "-2048*1024*1024-1.5", -2147483649.0);
+    // Halfway between two floats it is the even one.
+    kept(2, "4096*4096", 16777216);
+    kept(2, "4096*4096+1", 16777216);
+    kept(2, "4096*4096+1.001", 16777218);
+    kept(2, "4096*4096+2", 16777218);
+    kept(2, "4096*4096+3", 16777220);
+    kept(2, "4096*4096+2.999", 16777218);
+    kept(2, "-4096*4096-1", -16777216);
+    kept(2, "-4096*4096-3", -16777220);
+    kept(2, "0.1", (double) 0.1f);
+    kept(3, "127", 127);
+    kept(3, "127.999", 127);
+    kept(3, "128", -128);
+    kept(3, "-128", -128);
+    kept(3, "-128.999", -128);
+    kept(3, "-129", 127);
+    kept(3, "255", -1);
+    kept(3, "255.5", -1);
+    kept(3, "256", 0);
+    kept(3, "-0.5", 0);
+    kept(3, "-1", -1);
+    kept(3, "2048*1024*1024-1", -1);
+    kept(3, "2048*1024*1024", 0);
+    kept(3, "4096*1024*1024+200", -56);
+    kept(3, "-4096*1024*1024-200", 56);
+    kept(3, "1000*1000*1000*1000-1", -1);
+    kept(4, "359.999", (double) 359.999f);
+    kept(4, "360", 0);
+    kept(4, "360.125", 0.125);
+    kept(4, "719.875", 359.875);
+    kept(4, "720", 0);
+    kept(4, "-359.875", -359.875);
+    kept(4, "-360", 0);
+    kept(4, "-360.125", -0.125);
+    // As a float it is 360 already, and nothing is left.
+    kept(4, "359.999+0.001/1.001", 360.0f % 360.0f);
+    kept(4, "4096*4096+1", (double) (16777216f % 360f));
+    kept(4, "1000*1000*1000*1000", (double) (1e12f % 360f));
+    kept(4, "-1000*1000*1000*1000", (double) (-1e12f % 360f));
+    kept(5, "999.999", 999.999);
+    kept(5, "1000", 1000);
+    kept(5, "1000.001", 1000);
+    kept(5, "-999.999", -999.999);
+    kept(5, "-1000", -1000);
+    kept(5, "-1000.001", -1000);
+    kept(5, "1000*1000*1000*1000", 1000);
+    for (int kind = 0; kind < 6; kind++) {
+      kept(kind, "0", 0);
+      kept(kind, "-0", 0);
+      kept(kind, "0*-1", 0);
+      kept(kind, "-3%3", 0);
+      kept(kind, "0/-5", 0);
+    }
+  }
+
+  /** "The first that is wrong" comes ahead of what KEEPS: an ERROR is no number to cap. */
+  private static void errorsAreNotKept() {
+    for (int kind = 0; kind < 6; kind++) {
+      WhatIfSheet x = new WhatIfSheet();
+      x.kind(9, kind);
+      Check.tell(x, 9, "1000*1000*1000*1000*2");
+      Check.due("1: ERROR 3 by " + kind, x.value(9), -23);
+      Check.tell(x, 9, "1/0");
+      Check.due("1: ERROR 2 by " + kind, x.value(9), -22);
+      Check.tell(x, 9, "a");
+      Check.due("1: ERROR 1 by " + kind, x.value(9), -21);
+      Check.tell(x, 9, "most 0");
+      Check.due("1: ERROR 4 by " + kind, x.value(9), -24);
+    }
+  }
+
+  // ---- ERRORS 2 and 3
+
+  private static void far(String text, double want) {
+    WhatIfSheet x = new WhatIfSheet();
+    Check.tell(x, 0, "1000*1000*1000*1000");
+    Check.tell(x, 1, text);
+    if (want <= 1e12 && want >= -1e12) {
+      Check.dueNumber("1: <" + text + ">", x.value(1), want);
+      Check.due("1: <" + text + ">", x.told(1, 6), -1);
+    } else {
+      Check.due("1: <" + text + ">", x.value(1), -23);
+      Check.due("1: <" + text + ">", x.told(1, 6), 1);
+    }
+  }
+
+  private static void farNumbers() {
+    double a = 1e12;
+    far("a+0", a);
+    // What is rounded to the farthest number isn't beyond it.
+    far("a+0.05/1000", a + 0.05 / 1000);
+    far("a+0.07/1000", a + 0.07 / 1000);
+    far("a+0.001", a + 0.001);
+    far("-a-0.05/1000", -a - 0.05 / 1000);
+    far("-a-0.07/1000", -a - 0.07 / 1000);
+    far("-a-0.001", -a - 0.001);
+    far("-a+-0.001", -a + -0.001);
+    far("a--0.001", a + 0.001);
+    far("a*1", a);
+    far("a*1.001", a * 1.001);
+    far("a*-1", -a);
+    far("a*-1.001", a * -1.001);
+    far("(a-0.001)*1", a - 0.001);
+    far("1000*1000*(1000*1000+0.001)", 1000.0 * 1000 * (1000.0 * 1000 + 0.001));
+    far("a/1", a);
+    far("a/0.999", a / 0.999);
+    far("a/-1", -a);
+    far("a/-0.999", a / -0.999);
+    far("1/0.001/0.001/0.001/0.001", 1 / 0.001 / 0.001 / 0.001 / 0.001);
+    far("a%9999", a % 9999);
+    far("-a%0.007", -a % 0.007);
+    far("9999%a", 9999);
+    far("a%a", 0);
+    far("-a", -a);
+    far("- -a", a);
+    far("max(a,-a)", a);
+    far("min(a,-a)", -a);
+    far("a=a", 1);
+    far("pick(1,a,0)", a);
+    // On the way it is too far, at the end it would not be.
+    WhatIfSheet x = new WhatIfSheet();
+    Check.tell(x, 0, "1000*1000*1000*1000");
+    Check.tell(x, 1, "a+a-a");
+    Check.due("1: too far on the way", x.value(1), -23);
+    Check.tell(x, 1, "a*a/a");
+    Check.due("1: too far on the way", x.value(1), -23);
+    Check.tell(x, 1, "(a+a)*0");
+    Check.due("1: too far on the way", x.value(1), -23);
+    Check.tell(x, 1, "0*(1/0)");
+    Check.due("1: by 0 on the way", x.value(1), -22);
+    Check.tell(x, 1, "a-a+a");
+    Check.dueNumber("1: not too far on the way", x.value(1), 1e12);
+  }
+
+  private static void byNothing() {
+    String[] nothings = {"0", "-0", "0.0", "(1-1)", "(0.1-0.1)", "-(1-1)", "(0*-7)", "(3=4)", "fails 1", "b"};
+    for (String nothing : nothings) {
+      for (String by : new String[] {"/", "%"}) {
+        WhatIfSheet x = new WhatIfSheet();
+        x.set(1, 0);
+        x.set(2, 8);
+        x.table(1, 2, 2, -1);
+        Check.tell(x, 9, "7" + by + nothing);
+        Check.due("1: 7" + by + nothing, x.value(9), -22);
+        Check.due("1: 7" + by + nothing, x.told(9, 6), 9);
+        Check.tell(x, 9, "0" + by + nothing);
+        Check.due("1: 0" + by + nothing, x.value(9), -22);
+        Check.tell(x, 9, "7" + by + "(" + nothing + "+0.001)");
+        Check.dueNumber("1: 7" + by + "0.001", x.value(9), by.equals("/") ? 7 / 0.001 : 7 % 0.001);
+        Check.tell(x, 9, "7" + by + "(" + nothing + "-0.001)");
+        Check.dueNumber("1: 7" + by + "-0.001", x.value(9), by.equals("/") ? 7 / -0.001 : 7 % -0.001);
+      }
+    }
+    // A KIND makes nothing of a number.
+    WhatIfSheet x = new WhatIfSheet();
+    x.kind(0, 1);
+    x.set(0, 7);
+    Check.tell(x, 1, "1/a");
+    Check.due("1: by what was cut to 0", x.value(1), -22);
+    x.kind(0, 0);
+    x.set(0, 7);
+    Check.dueNumber("1: by what wasn't", x.value(1), 1 / 0.875);
+  }
+
+  // ---- THE TAPE, TOKENS, FAULT
+
+  private static void fault(String text, int place) {
+    WhatIfSheet x = new WhatIfSheet();
+    Check.due("10: fault of <" + text + ">", Check.tell(x, 9, text), -100 - place);
+    Check.due("10: fault of <" + text + ">", x.told(9, 1), 0);
+  }
+
+  private static void taken(String text) {
+    WhatIfSheet x = new WhatIfSheet();
+    Check.due("10: <" + text + ">", Check.tell(x, 24 - 1, text), 1);
+    Check.due("10: <" + text + ">", x.told(23, 1), 1);
+  }
+
+  /** What becomes of each byte that there is, alone, behind a cell, behind a sign, ahead of a cell. */
+  private static void eachByte() {
+    for (int b = 0; b < 256; b++) {
+      boolean cell = b >= 'a' && b <= 'w';
+      boolean letter = b >= 'a' && b <= 'z';
+      boolean digit = b >= '0' && b <= '9';
+      boolean blank = b == 32 || b == 10;
+      boolean between = b == '+' || b == '-' || b == '*' || b == '/' || b == '%' || b == '<' || b == '=';
+      String one = "" + (char) b;
+      String name = "10: byte " + b;
+      boolean x = b == 'x';
+      Check.due(name + " alone", told(one), cell || digit ? 1 : x ? -5 : b == '-' || b == '(' || blank ? -101 : -100);
+      Check.due(name + " behind a cell", told("a" + one), letter ? -100 : blank ? 1 : between ? -102 : -101);
+      Check.due(name + " behind a blank", told("a " + one), blank ? 1 : between ? -103 : -102);
+      Check.due(name + " behind a sign", told("a+" + one),
+          cell || digit ? 1 : x ? -5 : blank || b == '-' || b == '(' ? -103 : -102);
+      Check.due(name + " ahead of a cell", told(one + "a"),
+          letter ? -100 : digit ? -101 : blank || b == '-' ? 1 : b == '(' ? -102 : -100);
+      Check.due(name + " between cells", told("a" + one + "b"), letter ? -100 : blank ? -102 : between ? 1 : -101);
+    }
+  }
+
+  private static int told(String text) {
+    return Check.tell(new WhatIfSheet(), 23, text);
+  }
+
+  private static void words() {
+    for (char c = 'a'; c <= 'w'; c++) taken("" + c);
+    fault("y", 0);
+    fault("z", 0);
+    for (String word : new String[] {"pick", "min", "max", "sum", "mean", "least", "most", "fails"}) {
+      boolean asks = !word.equals("pick") && !word.equals("min") && !word.equals("max");
+      String parts = asks ? " 0" : word.equals("pick") ? "(1,2,3)" : "(1,2)";
+      taken(word + parts);
+      taken(word + " \n" + parts);
+      if (asks) taken(word + "0");
+      fault(word, word.length());
+      fault(word + "s" + parts, 0);
+      fault("s" + word + parts, 0);
+      fault(word.substring(1) + parts, 0);
+      fault(word.substring(0, word.length() - 1) + parts, 0);
+      fault(word + word + parts, 0);
+      fault(word + " " + word + parts, word.length() + 1);
+      fault("a " + word + parts, 2);
+      fault(word.toUpperCase() + parts, 0);
+      fault(word.substring(0, 1) + " " + word.substring(1) + parts, 2);
+      if (asks) {
+        for (int t = 0; t < 6; t++) taken(word + " " + t);
+        fault(word + " 6", word.length() + 1);
+        fault(word + " 10", word.length() + 1);
+        fault(word + " 5.0", word.length() + 1);
+        fault(word + " 0.5", word.length() + 1);
+        fault(word + " a", word.length() + 1);
+        fault(word + "(0)", word.length());
+        fault(word + " -0", word.length() + 1);
+        fault(word + " 0 1", word.length() + 3);
+        fault(word + " 00000", word.length() + 1);
+        taken(word + " 0005");
+        fault(word + " 0006", word.length() + 1);
+      } else {
+        fault(word + "()", word.length() + 1);
+        fault(word + "(1", word.length() + 2);
+        fault(word + "(1,", word.length() + 3);
+        fault(word + "(1)", word.length() + 2);
+        fault(word + " 1", word.length() + 1);
+        fault(word + "1,2)", word.length());
+        fault(word + "(1 2)", word.length() + 3);
+        fault(word + "(1,2,3,4)", word.length() + (word.equals("pick") ? 6 : 4));
+        if (word.equals("pick")) fault(word + "(1,2)", word.length() + 4);
+        fault(word + "(1<2<3,2)", word.length() + 4);
+      }
+    }
+  }
+
+  private static void numbers() {
+    String[] whole = {"0", "7", "10", "99", "100", "999", "1000", "9999", "0000", "0001"};
+    String[] parts = {"0", "1", "9", "00", "01", "99", "000", "001", "999", "500"};
+    for (String w : whole) {
+      taken(w);
+      for (String p : parts) {
+        WhatIfSheet x = new WhatIfSheet();
+        String text = w + "." + p;
+        Check.due("10: <" + text + ">", Check.tell(x, 9, text), 1);
+        int thousandths = Integer.parseInt(w) * 1000 + Integer.parseInt((p + "00").substring(0, 3));
+        Check.dueNumber("10: <" + text + ">", x.value(9), thousandths / 1000.0);
+        fault(w + "." + p + "." + p, text.length());
+        fault(w + " ." + p, w.length() + 1);
+      }
+      fault(w + ".", 0);
+      fault(w + ". 5", 0);
+      fault("a+" + w + ".", 2);
+      fault(w + ".0000", 0);
+      fault(w + ".a", 0);
+      fault(w + " " + w, w.length() + 1);
+      fault(w + "a", w.length());
+    }
+    fault("10000", 0);
+    fault("00000", 0);
+    fault("99999.9", 0);
+    fault("1234567890123456789012345678901234567890", 0);
+    fault("1.2345678901234567890", 0);
+    fault("(12345)", 1);
+  }
+
+  /** Four of ( and - that are open are taken, five are none; those that were ended count no more. */
+  private static void fourOpen() {
+    String[] opens = {"(", "-", "pick(", "min(", "max("};
+    String[] ends = {")", "", ",1,1)", ",1)", ",1)"};
+    int[] signAt = {0, 0, 4, 3, 3};
+    for (int code = 0; code < 3125; code++) {
+      StringBuilder text = new StringBuilder();
+      StringBuilder end = new StringBuilder();
+      int place = 0;
+      int rest = code;
+      for (int k = 0; k < 5; k++) {
+        int open = rest % 5;
+        rest = rest / 5;
+        place = text.length() + signAt[open];
+        text.append(opens[open]);
+        end.insert(0, ends[open]);
+        if (k == 3) taken(text + "1" + end);
+      }
+      fault(text + "1" + end, place);
+    }
+    taken("((((1))))+((((1))))*----1-----1");
+    fault("((((1))))+((((1))))*----1------1", 30);
+    taken("(((1)+(1)))");
+    fault("(((((1))))+1)", 4);
+    taken("-(-(1))");
+    fault("-(-(-1))", 4);
+    taken("pick(((1)),-(-1),(-1))");
+    // A - that stands between isn't ahead of a ONE.
+    taken("((((1-1-1))))");
+    fault("((((1--1))))", 6);
+    fault("((((1,1))))", 5);
+  }
+
+  private static void fullTape() {
+    StringBuilder text = new StringBuilder("1");
+    while (text.length() < 95) text.append("+1");
+    WhatIfSheet x = new WhatIfSheet();
+    Check.due("10: 95 bytes", Check.tell(x, 0, text.toString()), 1);
+    Check.dueNumber("10: 95 bytes", x.value(0), 48);
+    Check.due("10: 96 bytes", Check.tell(x, 0, text + " "), 1);
+    Check.due("10: 96 bytes", Check.tell(x, 0, text.substring(0, 94) + "10"), 1);
+    Check.dueNumber("10: 96 bytes", x.value(0), 57);
+    Check.due("10: ends too early at 96", Check.tell(x, 0, text + "+"), -196);
+    Check.due("10: fault at 95", Check.tell(x, 0, text + ")"), -195);
+    Check.due("10: 96 blanks", Check.tell(x, 0, " ".repeat(96)), -196);
+    Check.dueNumber("10: stays", x.value(0), 57);
+    Check.due("10: a word at the end", Check.tell(x, 0, text.substring(0, 94) + "mi"), -194);
+    Check.due("10: a word at the end", Check.tell(x, 0, text.substring(0, 94) + "b "), 1);
+    Check.due("10: a number at the end", Check.tell(x, 0, text.substring(0, 94) + "1."), -194);
+    Check.due("10: a table at the end", Check.tell(x, 0, text.substring(0, 92) + "sum0"), 1);
+    Check.due("10: no table at the end", Check.tell(x, 0, text.substring(0, 92) + "sum "), -196);
+  }
+
+  // ---- SOUGHT
+
+  /** What is SOUGHT, told by the words of the document. */
+  private static void sought(String text, DoubleUnaryOperator f, int low, int high, int want) {
+    WhatIfSheet x = new WhatIfSheet();
+    Check.due("19: <" + text + ">", Check.tell(x, 1, text), 1);
+    double w = want / 8.0;
+    double l = low / 8.0;
+    double h = high / 8.0;
+    double fl = f.applyAsDouble(l);
+    double fh = f.applyAsDouble(h);
+    int told = 2;
+    double found = Double.NaN;
+    if (fl == w) found = l;
+    else if (fh == w) found = h;
+    else if (fl < w && w < fh || fh < w && w < fl) {
+      boolean half = false;
+      boolean hit = false;
+      for (int k = 0; k < 40 && !hit; k++) {
+        double m = l + (h - l) / 2;
+        double along = l + (w - fl) * (h - l) / (fh - fl);
+        if (half && along > l && along < h) m = along;
+        if (!(m > l && m < h)) break;
+        double fm = f.applyAsDouble(m);
+        told++;
+        double wide = h - l;
+        if (fm == w) {
+          hit = true;
+          found = m;
+        } else if (fm < w == fl < w) {
+          l = m;
+          fl = fm;
+        } else {
+          h = m;
+          fh = fm;
+        }
+        half = h - l <= wide / 2;
+      }
+      if (!hit) found = Math.abs(fh - w) < Math.abs(fl - w) ? h : l;
+    }
+    String name = "19: <" + text + "> " + low + " .. " + high + ", " + want;
+    if (Double.isNaN(found)) {
+      Check.due(name, x.seek(0, 1, low, high, want, 0), -1);
+      Check.due(name, x.seek(0, 1, low, high, want, 1), -1);
+    } else {
+      Check.dueNumber(name, x.seek(0, 1, low, high, want, 0), found);
+      Check.dueNumber(name, x.seek(0, 1, low, high, want, 1), f.applyAsDouble(found));
+    }
+    Check.due(name, x.seek(0, 1, low, high, want, 2), told);
+  }
+
+  private static void soughtAtBounds() {
+    int[][] brackets = {{0, 80}, {-80, 80}, {1, 2}, {-80000, 80000}, {79999, 80000}, {-80000, -79999}, {-3, 1000}};
+    for (int[] b : brackets) {
+      for (int want : new int[] {-80000, -17, -8, -1, 0, 1, 7, 8, 17, 1000, 79999, 80000}) {
+        sought("a", a -> a, b[0], b[1], want);
+        sought("3-a", a -> 3 - a, b[0], b[1], want);
+        sought("a*a*a", a -> a * a * a, b[0] / 100, Math.max(b[0] / 100 + 1, b[1] / 100), want);
+        sought("a*a-2", a -> a * a - 2, b[0], b[1], want);
+        sought("1/(a*a+1)", a -> 1 / (a * a + 1), b[0], b[1], want);
+        sought("a/7+0.01", a -> a / 7 + 0.01, b[0], b[1], want);
+        sought("pick(a<0.3,-1,5)", a -> a < 0.3 ? -1 : 5, b[0], b[1], want);
+        sought("pick(a<9999.9,-2,2)", a -> a < 9999.9 ? -2 : 2, b[0], b[1], want);
+        sought("pick(a< -9999.9,-2,2)", a -> a < -9999.9 ? -2 : 2, b[0], b[1], want);
+        // So far apart that what lies along the line is the low end again, or the high end.
+        sought("pick(a<0.7,-0.001,9999*9999*9999)", a -> a < 0.7 ? -0.001 : 9999.0 * 9999 * 9999, b[0], b[1], want);
+        sought("pick(a<0.7,-9999*9999*9999,0.001)", a -> a < 0.7 ? -9999.0 * 9999 * 9999 : 0.001, b[0], b[1], want);
+        sought("a%3", a -> a % 3 == 0 ? 0 : a % 3, b[0], b[1], want);
+      }
+    }
+    // "40 times at most": 42 are told with those at the ends; "it ends": before that, where no number lies between.
+    WhatIfSheet x = new WhatIfSheet();
+    Check.tell(x, 1, "pick(a<0.3,0,1)");
+    Check.due("19: all 40", x.seek(0, 1, -80000, 80000, 4, 2), 42);
+    Check.tell(x, 1, "pick(a<9999.9,0,1)");
+    Check.due("19: none lies between", x.seek(0, 1, 79999, 80000, 4, 2), 38);
+    Check.due("19: the highest below", x.seek(0, 1, 79999, 80000, 4, 1), 0);
+    Check.dueNumber("19: the highest below", x.seek(0, 1, 79999, 80000, 4, 0), Math.nextDown(9999.9));
+  }
+
+  // ---- DRAWN
+
+  /** Each number that can be drawn, and what is WANT or more. */
+  private static void drawnAtBounds() {
+    WhatIfSheet x = new WhatIfSheet();
+    boolean least = false;
+    boolean most = false;
+    for (int seed = 0; seed < 4000; seed++) {
+      int z = seed * 1103515245 + 12345;
+      int eighths = (z >>> 9) % 401 - 200;
+      least |= eighths == -200;
+      most |= eighths == 200;
+      if (eighths > -198 && eighths < 198 && seed > 50) continue;
+      Check.due("21: as wanted " + eighths, x.chance(0, seed, 1, eighths, 0), 1);
+      Check.due("21: one more " + eighths, x.chance(0, seed, 1, eighths + 1, 0), 0);
+      Check.due("21: none of it " + eighths, x.chance(0, seed, 1, eighths + 1, 1), 1);
+    }
+    Check.due("21: the least and the most were drawn", least && most ? 1 : 0, 1);
+    // Seeds that are each 1 more go round behind the last int.
+    int hits = 0;
+    for (int k = 0; k < 20; k++) {
+      int z = (Integer.MAX_VALUE - 4 + k) * 1103515245 + 12345;
+      if ((z >>> 9) % 401 - 200 >= 0) hits++;
+    }
+    int above = x.chance(0, Integer.MAX_VALUE - 4, 20, 0, 0);
+    int below = x.chance(0, Integer.MAX_VALUE - 4, 20, 0, 1);
+    Check.due("21: round", above * 20, hits * below);
+  }
+
+  /** The 64 bits of numbers about each power of two. */
+  private static void bits() {
+    WhatIfSheet x = new WhatIfSheet();
+    x.row(0, 3, 1);
+    x.row(1, 1, 1);
+    for (int power = 0; power < 32; power++) {
+      for (int d = -1; d <= 1; d++) {
+        int v = (1 << power) + d;
+        x.put(0, 0, v);
+        Check.dueNumber("29: bits of " + v + " eighths", x.item(0, 0), v / 8.0);
+        x.put(1, 0, v);
+        Check.dueNumber("29: bits of " + v, x.item(1, 0), v);
+      }
+    }
+  }
+
+  public static void main(String[] args) {
+    firstAndLastCell();
+    firstAndLastTable();
+    firstAndLastRow();
+    leastAndMost();
+    keptAtBounds();
+    errorsAreNotKept();
+    farNumbers();
+    byNothing();
+    eachByte();
+    words();
+    numbers();
+    fourOpen();
+    fullTape();
+    soughtAtBounds();
+    drawnAtBounds();
+    bits();
+    Check.end();
+  }
+}
