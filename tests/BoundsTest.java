@@ -312,6 +312,283 @@ public final class BoundsTest {
     Check.dueNumber("1: by what wasn't", x.value(1), 1 / 0.875);
   }
 
+  // ---- "Its ERROR is the first that comes so"
+
+  /** f is EMPTY, u / 0, v too far, table 0 not laid, e 5: each with each by each operation. */
+  private static void firstOfErrors() {
+    String[] parts = {"e", "f", "u", "v", "sum 0"};
+    int[] errors = {0, 1, 2, 3, 4};
+    int[] blames = {-1, 5, 20, 21, 9};
+    for (int p = 0; p < 5; p++) {
+      for (int q = 0; q < 5; q++) {
+        int first = p != 0 ? p : q;
+        for (String text : new String[] {"A+B", "A-B", "A*B", "A/B", "A%B", "A<B", "A=B", "min(A,B)", "max(A,B)",
+            "-A+B", "A--B", "(A)*(B)", "0*A+B", "1+A/B", "1-(A%B)", "A*2<B*2", "pick(A,B,B)", "pick(1,A,0)+B",
+            "pick(0,0,A)+pick(1,B,0)", "pick(1,pick(0,u,A),v)/B", "min(max(A,B),u)", "A/B+u", "pick(A=B,1,1)"}) {
+          boolean rest = text.endsWith("u)") || text.endsWith("+u");
+          int due = first != 0 ? first : rest ? 2 : 0;
+          String of = text.replace("A", parts[p]).replace("B", parts[q]);
+          WhatIfSheet x = erring();
+          Check.due("1: <" + of + ">", Check.tell(x, 9, of), 1);
+          Check.due("1: ERROR of <" + of + ">", x.told(9, 5), errors[due]);
+          Check.due("1: BLAME of <" + of + ">", x.told(9, 6), due == 0 ? -1 : blames[due]);
+        }
+      }
+    }
+    // What pick leaves doesn't count, wherever it stands; what its first has counts.
+    for (int p = 1; p < 5; p++) {
+      for (String text : new String[] {"pick(1,7,A)", "pick(0,A,7)", "pick(0,A/A,7)", "1*pick(e,7,A)", "pick(1,7,pick(A,A,A))",
+          "pick(pick(0,A,1),7,A)", "max(pick(1,7,A),pick(0,A,2))", "pick(1,pick(0,A,7),A+1)", "7+(0*pick(0,A,3))"}) {
+        String of = text.replace("A", parts[p]);
+        WhatIfSheet x = erring();
+        Check.due("1: <" + of + ">", Check.tell(x, 9, of), 1);
+        Check.dueNumber("1: <" + of + ">", x.value(9), 7);
+      }
+    }
+  }
+
+  private static WhatIfSheet erring() {
+    WhatIfSheet x = new WhatIfSheet();
+    x.set(4, 40);
+    Check.tell(x, 20, "1/0");
+    Check.tell(x, 21, "9999*9999*9999*9999");
+    return x;
+  }
+
+  private static void number(String text, double want) {
+    WhatIfSheet x = new WhatIfSheet();
+    x.set(0, 8);
+    Check.due("1: <" + text + ">", Check.tell(x, 9, text), 1);
+    Check.dueNumber("1: <" + text + ">", x.value(9), want);
+  }
+
+  /** Parts within parts, on either side of an operation. */
+  private static void partsWithin() {
+    number("1+pick(1,2,3)", 3);
+    number("1+pick(0,2,3)", 4);
+    number("2*pick(0,2,3)+pick(1,4,5)", 10);
+    number("10-pick(pick(0,1,0),2,pick(1,3,4))*2", 4);
+    number("pick(1,pick(1,pick(1,pick(0,2,3),4),5),6)", 3);
+    number("7-pick(1<2,1+pick(2<1,5,2),9)-1", 3);
+    number("5+min(3,pick(1,2,1))", 7);
+    number("5+max(3,-min(-4,2))*2", 13);
+    number("1+(2<3)*4", 5);
+    number("1<2+3", 1);
+    number("1+2<3", 0);
+    number("1+2=3", 1);
+    number("1=1+1", 0);
+    number("7.5%1", 0.5);
+    number("-7.5%1", -0.5);
+    number("7.5%-1", 0.5);
+    number("7.5/1", 7.5);
+    number("7.5/-1", -7.5);
+    number("0.999%1", 0.999);
+    number("1%1", 0);
+    number("9-2*3%4/2+1", 9 - 2.0 * 3 % 4 / 2 + 1);
+    number("min(1,1)+max(1,1)", 2);
+    number("min(-0.001,0)", -0.001);
+    number("max(-0.001,0)", 0);
+    number("pick(0.001*0.001,1,2)", 1);
+    number("pick(a-1,1,2)", 2);
+  }
+
+  /** A formula that is told anew leaves nothing of the one before, be it longer or shorter. */
+  private static void formulasAnew() {
+    WhatIfSheet x = new WhatIfSheet();
+    x.set(0, 24);
+    x.table(0, 0, 1, -1);
+    String[] texts = {"a", "--a", "-a", "---a", "a*2", "a", "pick(1,a,2)", "1", "sum 0+sum 0*2-7", "a", "-a+1", "5",
+        "min(a,1)*-2", "2", "(a<4)+(a=3)", "a"};
+    double[] due = {3, 3, -3, -3, 6, 3, 3, 1, 2, 3, -2, 5, -2, 2, 2, 3};
+    for (int round = 0; round < 3; round++) {
+      for (int k = 0; k < texts.length; k++) {
+        for (int cell : new int[] {9, 10}) {
+          Check.due("10: anew <" + texts[k] + ">", Check.tell(x, cell, texts[k]), 1);
+          Check.dueNumber("10: anew <" + texts[k] + ">", x.value(cell), due[k]);
+          int reads = texts[k].indexOf('a') >= 0 || texts[k].indexOf('u') >= 0 ? 1 : 0;
+          Check.due("10: anew <" + texts[k] + "> reads", x.told(cell, 2), reads);
+          Check.due("10: anew <" + texts[k] + "> burden", x.told(cell, 4), 1);
+          Check.due("10: anew <" + texts[k] + "> reaches", x.told(cell, 3),
+              1 << cell | (texts[k].indexOf('a') >= 0 ? 1 : 0));
+        }
+      }
+    }
+  }
+
+  /** Each cell, with a formula and cleared, dropped from an image, is an INPUT wholly. */
+  private static void eachCellCleared() {
+    for (int cell = 0; cell < 24; cell++) {
+      int named = (cell + 5) % 24;
+      int asking = (cell + 11) % 24;
+      WhatIfSheet x = new WhatIfSheet();
+      x.image();
+      for (int way = 0; way < 2; way++) {
+        x.set(named, 8);
+        Check.tell(x, cell, (char) ('a' + named) + "+1");
+        Check.tell(x, asking, (char) ('a' + cell) + "*2");
+        Check.due("5: reads", x.told(asking, 2), 1 << named);
+        Check.due("5: burden", x.told(asking, 4), 2);
+        if (way == 0) x.clear(cell);
+        else x.back();
+        Check.due("3: reads itself", x.told(cell, 2), 1 << cell);
+        Check.due("3: reaches itself", x.told(cell, 3), 1 << cell);
+        Check.due("3: no burden", x.told(cell, 4), 0);
+        Check.due("3: empty", x.told(cell, 7), 1);
+        Check.due("3: blame", x.told(cell, 6), cell);
+        if (way == 0) Check.due("3: is read", x.told(asking, 2), 1 << cell);
+        if (way == 0) Check.due("3: is reached", x.told(asking, 3), 1 << cell | 1 << asking);
+        if (way == 0) Check.due("3: burden without it", x.told(asking, 4), 1);
+        Check.due("3: it may be named by what it named", Check.tell(x, named, (char) ('a' + cell) + ""), 1);
+        x.clear(named);
+        x.clear(asking);
+      }
+    }
+  }
+
+  // ---- TABLES
+
+  /** What all CASES fail in, what one doesn't fail in, what isn't laid: by adds, and as a formula tells it. */
+  private static void failingAtBounds() {
+    for (int good = 0; good <= 3; good++) {
+      WhatIfSheet x = new WhatIfSheet();
+      Check.tell(x, 4, "1/a");
+      x.table(2, 4, 0, -1);
+      x.row(0, 3, 3);
+      for (int i = 0; i < good; i++) x.put(0, 2 - i, 16);
+      x.axisBy(2, 0, 0, 0, 3);
+      String[] words = {"sum", "mean", "least", "most", "fails"};
+      double[] due = {0.5 * good, 0.5, 0.5, 0.5, 3 - good};
+      for (int what = 0; what < 5; what++) {
+        Check.due("2: " + words[what], Check.tell(x, 5, words[what] + " 2"), 1);
+        boolean none = good == 0 && what >= 1 && what <= 3;
+        String name = "2: " + words[what] + " of " + good + " that don't fail";
+        if (none) {
+          Check.due(name, x.adds(2, what), -24);
+          Check.due(name, x.value(5), -24);
+          Check.due(name, x.told(5, 6), 5);
+        } else {
+          if (what == 4) Check.due(name, x.adds(2, what), 3 - good);
+          else Check.dueNumber(name, x.adds(2, what), due[what]);
+          Check.dueNumber(name, x.value(5), due[what]);
+          Check.due(name, x.told(5, 6), -1);
+        }
+      }
+      Check.due("18: first least", x.asks(2, 0), good == 0 ? -1 : 10 * (3 - good));
+      Check.due("18: first most", x.asks(2, 1), good == 0 ? -1 : 10 * (3 - good));
+      x.drop(2);
+      for (int what = 0; what < 5; what++) {
+        Check.tell(x, 5, words[what] + " 2");
+        Check.due("2: " + words[what] + " of none laid", x.value(5), -24);
+        Check.due("2: " + words[what] + " of none laid", x.told(5, 6), 5);
+      }
+    }
+  }
+
+  /** TOLD LEAST, BURDEN and the rest by whether what is named is laid now. */
+  private static void laidAndDropped() {
+    WhatIfSheet x = new WhatIfSheet();
+    Check.tell(x, 4, "a+b");
+    Check.tell(x, 5, "sum 0+a+sum 0");
+    x.table(1, 5, 0, -1);
+    x.axis(1, 0, 0, 8, 3);
+    for (int round = 0; round < 2; round++) {
+      Check.due("18: told least, none laid within", x.asks(1, 3), 3);
+      Check.due("18: burden, none laid within", x.asks(1, 4), 3);
+      Check.due("5: reads, none laid", x.told(5, 2), 1);
+      x.table(0, 4, 1, -1);
+      x.axis(0, 0, 0, 8, 2);
+      Check.due("18: told least, one laid within", x.asks(1, 3), (1 + 2 * 2) * 3);
+      Check.due("18: burden, one laid within", x.asks(1, 4), (1 + 2 * 2) * 3);
+      x.axis(0, 0, 0, 0, 2);
+      Check.due("18: told least, like values", x.asks(1, 3), (1 + 2 * 1) * 3);
+      Check.due("18: burden, like values", x.asks(1, 4), (1 + 2 * 2) * 3);
+      Check.due("14: drop", x.drop(0), 1);
+    }
+  }
+
+  /** "KEPT by that INPUT's KIND whenever they are asked": what was told is not cut for good. */
+  private static void axesKept() {
+    WhatIfSheet x = new WhatIfSheet();
+    x.table(0, 0, 0, 1);
+    x.axis(0, 0, -1030, 3, 8);
+    x.axis(0, 1, 2879, 1, 8);
+    int[] kinds = {3, 1, 5, 4, 2, 0, 3, 0};
+    for (int kind : kinds) {
+      x.kind(0, kind);
+      int unlike = 0;
+      double before = Double.NaN;
+      for (int i = 0; i < 8; i++) {
+        double v = (-1030 + 3 * i) / 8.0;
+        double as = kind == 1 ? (long) v : kind == 3 ? (byte) (long) v : v;
+        Check.dueNumber("2: case " + i + " KEPT by " + kind, x.at(0, i, 7), as);
+        if (as != before) unlike++;
+        before = as;
+      }
+      Check.due("18: unlike, KEPT by " + kind, x.asks(0, 7), unlike);
+      Check.due("18: how many, KEPT by " + kind, x.asks(0, 5), 8);
+    }
+    x.kind(1, 4);
+    x.axis(0, 1, 2880, -1440, 3);
+    Check.due("18: unlike ones of 360, 180, 0", x.asks(0, 8), 2);
+    x.axis(0, 1, 8000, 1, 3);
+    x.kind(1, 5);
+    Check.due("18: unlike ones above 1000", x.asks(0, 8), 1);
+    x.kind(1, 0);
+    Check.due("18: unlike ones above 1000", x.asks(0, 8), 3);
+  }
+
+  // ---- TELLS
+
+  /** Each KIND by which all would be so, and none by which they wouldn't. */
+  private static void kindsTold() {
+    double[] values = {2.5, 300.75, 1000.125, -0.5, 400.0, 2000.0, 5.0, -129.0, 0.0};
+    for (double value : values) {
+      for (int was = 0; was < 6; was++) {
+        WhatIfSheet x = new WhatIfSheet();
+        x.set(0, (int) (value * 8));
+        Check.tell(x, 4, "a");
+        x.table(0, 4, 1, -1);
+        x.axis(0, 0, 0, 8, 2);
+        x.kind(4, was);
+        x.film(0, 0);
+        double told = keptBy(was, value);
+        int due = 0;
+        for (int k = 0; k < 6; k++) if (keptBy(k, value) == told) due |= 1 << k;
+        Check.due("23: kinds of " + value + " as of " + was, x.tells(0, 0, 4, 1), due);
+        Check.due("23: it is of its kind", x.told(4, 0), was);
+        // An INPUT's NUMBER is KEPT anew by each, from what it is.
+        x.kind(4, 0);
+        x.kind(0, was);
+        int of = 0;
+        for (int k = 0; k < 6; k++) if (keptBy(k, told) == told) of |= 1 << k;
+        Check.due("23: kinds of an input " + value + " as of " + was, x.tells(0, 0, 0, 1), of);
+        Check.dueNumber("23: it has its number", x.value(0), told);
+      }
+    }
+    // By one kind alone, and by none.
+    WhatIfSheet x = new WhatIfSheet();
+    x.set(0, 2401);
+    Check.tell(x, 4, "a");
+    x.table(0, 4, 1, -1);
+    x.row(0, 3, 1);
+    x.put(0, 0, 44 * 8);
+    Check.due("23: by SMALL alone", x.tells(0, 0, 0, 1), 8);
+    x.put(0, 0, 2400);
+    Check.due("23: by WHOLE alone", x.tells(0, 0, 4, 1), 2);
+    x.put(0, 0, 2402);
+    Check.due("23: by none", x.tells(0, 0, 4, 1), 0);
+  }
+
+  private static double keptBy(int kind, double v) {
+    double as = v;
+    if (kind == 1) as = (long) v;
+    if (kind == 2) as = (float) v;
+    if (kind == 3) as = (byte) (long) v;
+    if (kind == 4) as = (float) v % 360f;
+    if (kind == 5) as = Math.max(-1000, Math.min(1000, v));
+    return as == 0 ? 0 : as;
+  }
+
   // ---- THE TAPE, TOKENS, FAULT
 
   private static void fault(String text, int place) {
@@ -617,6 +894,14 @@ public final class BoundsTest {
     errorsAreNotKept();
     farNumbers();
     byNothing();
+    firstOfErrors();
+    partsWithin();
+    formulasAnew();
+    eachCellCleared();
+    failingAtBounds();
+    laidAndDropped();
+    axesKept();
+    kindsTold();
     eachByte();
     words();
     numbers();
