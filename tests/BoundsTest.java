@@ -869,6 +869,18 @@ public final class BoundsTest {
     Check.due("21: round", above * 20, hits * below);
   }
 
+  /** "An object is used for at most 512 calls": the 512th is answered as any. */
+  private static void lastCall() {
+    WhatIfSheet x = new WhatIfSheet();
+    x.feed(5, 97, 43, 98, 42, 50);
+    x.formula(2);
+    x.table(0, 2, 0, -1);
+    x.axis(0, 0, 0, 8, 8);
+    for (int k = 5; k <= 510; k++) Check.due("call " + k, x.set(1, k), 1);
+    Check.dueNumber("call 511", x.would(0, 8, 2), 1 + 2 * 510 / 8.0);
+    Check.dueNumber("call 512", x.adds(0, 3), 7 + 2 * 510 / 8.0);
+  }
+
   /** The 64 bits of numbers about each power of two. */
   private static void bits() {
     WhatIfSheet x = new WhatIfSheet();
@@ -910,6 +922,7 @@ public final class BoundsTest {
     soughtAtBounds();
     drawnAtBounds();
     bits();
+    lastCall();
     Check.end();
   }
 }
