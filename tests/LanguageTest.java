@@ -50,6 +50,7 @@ public final class LanguageTest {
   private static CompilationUnitTree unit;
   private static Trees trees;
   private static final Map<String, Set<String>> calls = new TreeMap<>();
+  private static final Set<String> hidden = new HashSet<>();
   private static final List<String> found = new ArrayList<>();
 
   private static void no(String rule, Tree where) {
@@ -115,6 +116,7 @@ public final class LanguageTest {
       Element e = trees.getElement(getCurrentPath());
       method = e.getEnclosingElement() + "." + t.getName();
       calls.computeIfAbsent(method, k -> new TreeSet<>());
+      if (t.getModifiers().getFlags().contains(Modifier.PRIVATE)) hidden.add(method);
       boolean face = FACE.contains(t.getName().toString());
       boolean outer = e.getEnclosingElement().toString().equals("WhatIfSheet");
       boolean open = t.getModifiers().getFlags().contains(Modifier.PUBLIC);
@@ -212,6 +214,7 @@ public final class LanguageTest {
     Map<String, Integer> known = new HashMap<>();
     for (String m : calls.keySet()) {
       if (recurs(m)) recurring.add(m);
+      if (recurs(m)) Check.due("rule 8: " + m + " recurs and is private", hidden.contains(m) ? 1 : 0, 1);
       Check.due("rule 11: calls from " + m + " on, at most eight deep", Math.max(8, depth(m, new HashSet<>(), known)), 8);
     }
     System.out.println("methods that recur: " + recurring);
